@@ -103,9 +103,9 @@ public final class DigestBox {
         checkKind(kind);
         Mac mac = macs[kind];
         mac.setKey(secret);
-        mac.begin();
+        mac.beginText();
         mac.sha.take(tape.bytes, 0, tape.length);
-        mac.close(roomForResult(mac.sha.hashBytes), 0);
+        mac.closeText(roomForResult(mac.sha.hashBytes), 0);
         tape.length = 0;
         return outcome.length;
     }
@@ -204,13 +204,13 @@ public final class DigestBox {
         // Room for whole steps: the last one is written whole too and cut by the length alone.
         byte[] to = roomForResult(steps * step);
         for (int i = 0; i < steps; i++) {
-            mac.begin();
+            mac.beginText();
             if (i > 0) {
                 mac.sha.take(to, (i - 1) * step, step);
             }
             mac.sha.take(info.bytes, 0, info.length);
             mac.sha.takeByte(i + 1);
-            mac.close(to, i * step);
+            mac.closeText(to, i * step);
         }
         outcome.length = n;
     }
@@ -294,12 +294,9 @@ public final class DigestBox {
         }
 
         private void take(byte[] from, int first, int many) {
-            int done = 0;
-            while (done < many) {
-                int part = Math.min(many - done, block.length - filled);
-                System.arraycopy(from, first + done, block, filled, part);
-                done += part;
-                filled += part;
+            for (int i = 0; i < many; i++) {
+                block[filled] = from[first + i];
+                filled++;
                 if (filled == block.length) {
                     goOverBlock();
                 }
@@ -531,7 +528,7 @@ public final class DigestBox {
         }
     }
 
-    /** HMAC over one of the hashes: setKey once, then for each text begin, sha.take, close. */
+    /** HMAC over one of the hashes: setKey once, then for each text beginText, sha.take, closeText. */
     private static final class Mac {
         private static final int INNER_PAD = 0x36;
         private static final int OUTER_PAD = 0x5c;
@@ -554,7 +551,7 @@ public final class DigestBox {
             fillKeyBlock(key);
             startWith(INNER_PAD, innerStart);
             startWith(OUTER_PAD, outerStart);
-            // The key is worked over once, but each HMAC counts these blocks anew: begin adds them.
+            // The key is worked over once, but each HMAC counts these blocks anew: beginText adds them.
             keyBlocks = sha.blocks - before;
             sha.blocks = before;
         }
@@ -578,12 +575,12 @@ public final class DigestBox {
             System.arraycopy(sha.state, 0, to, 0, to.length);
         }
 
-        private void begin() {
+        private void beginText() {
             sha.blocks += keyBlocks;
             sha.resume(innerStart, keyBlock.length);
         }
 
-        private void close(byte[] to, int first) {
+        private void closeText(byte[] to, int first) {
             sha.close(innerHash, 0);
             sha.resume(outerStart, keyBlock.length);
             sha.take(innerHash, 0, innerHash.length);

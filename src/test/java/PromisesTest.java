@@ -25,9 +25,11 @@ public final class PromisesTest {
         promise8Keep();
         promise9Hmac();
         promise9KeyLengths();
+        promise9ShorterKeyAfterLonger();
         promise10Expand();
         promise10LongKeyIsCountedForEachHmac();
         promise11ExpandLabel();
+        promise11OneLabelAfterAnother();
         promise11Limits();
         promise12Result();
         promise13Count();
@@ -265,6 +267,19 @@ public final class PromisesTest {
         }
     }
 
+    private static void promise9ShorterKeyAfterLonger() {
+        DigestBox box = new DigestBox();
+        ReferenceBox due = new ReferenceBox();
+        for (int length : new int[] {400, 60, 3, 0}) {
+            Boxes.key(box, Boxes.sample(length));
+            tape(due, Boxes.sample(length));
+            due.key();
+            box.hmac(1);
+            due.hmac(1);
+            sameResult("9: nothing is left of a longer key, " + length, box, due);
+        }
+    }
+
     private static void promise10Expand() {
         for (int kind = 0; kind < 3; kind++) {
             int most = 255 * HASH[kind];
@@ -317,6 +332,18 @@ public final class PromisesTest {
                 Check.same(what, Boxes.counts(box), counts(due));
                 sameEnds(what, box, due, c[0]);
             }
+        }
+    }
+
+    private static void promise11OneLabelAfterAnother() {
+        DigestBox box = Boxes.withKeyAndTape(Boxes.sample(32), new byte[0]);
+        ReferenceBox due = reference(Boxes.sample(32), new byte[0]);
+        for (int length : new int[] {200, 9, 30}) {
+            Boxes.tape(box, Boxes.sample(length));
+            tape(due, Boxes.sample(length));
+            box.expandLabel(2, 33, 8);
+            due.expandLabel(2, 33, 8);
+            sameResult("11: nothing is left of an earlier label, " + length, box, due);
         }
     }
 
