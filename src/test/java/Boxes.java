@@ -48,6 +48,30 @@ final class Boxes {
         return all.toString().trim();
     }
 
+    /**
+     * All that can be seen of a box, as a text: counts, THE RESULT's ends, the RUNS by their hashes, THE KEY and the
+     * TAPE by an HMAC. It uses the box up, and makes up to 140 calls.
+     */
+    static String everything(DigestBox box) {
+        StringBuilder all = new StringBuilder(counts(box));
+        int length = box.count(2);
+        all.append(" result ").append(resultHex(box, 0, Math.min(length, 32)));
+        all.append(" .. ").append(resultHex(box, Math.max(length - 32, 0), length));
+        for (int kind = 0; kind < 3; kind++) {
+            box.peek(kind);
+            all.append(" run ").append(kind).append(' ').append(resultHex(box, 0, 8));
+        }
+        box.hmac(0);
+        all.append(" key and tape ").append(resultHex(box, 0, 8));
+        return all.append(" at last ").append(counts(box)).toString();
+    }
+
+    /** restart with an answer, so that it can stand where the other calls stand. */
+    static long restart(DigestBox box, int kind) {
+        box.restart(kind);
+        return 0;
+    }
+
     /** Bytes that differ from their neighbours, the same for the same length. */
     static byte[] sample(int length) {
         byte[] bytes = new byte[length];

@@ -8,8 +8,22 @@ final class Check {
 
     private static int checks = 0;
     private static int wrong = 0;
+    private static String test = "";
 
     private Check() {
+    }
+
+    /** Runs one test by its name; what it throws is a wrong answer, and the tests behind it still run. */
+    static void test(String name, Runnable body) {
+        test = name + ": ";
+        int before = checks;
+        try {
+            body.run();
+            note("the test", checks > before, "no checks", "some");
+        } catch (RuntimeException | Error e) {
+            note("the test", false, "throws " + e, "no exception");
+        }
+        test = "";
     }
 
     static void same(String what, long got, long due) {
@@ -49,7 +63,7 @@ final class Check {
         checks++;
         if (!right) {
             wrong++;
-            System.out.println(what + " answered " + got + ", due is " + due);
+            System.out.println(test + what + " answered " + got + ", due is " + due);
         }
     }
 }

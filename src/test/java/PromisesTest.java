@@ -1,4 +1,3 @@
-import java.nio.ByteBuffer;
 import java.util.Arrays;
 import java.util.NoSuchElementException;
 
@@ -15,7 +14,6 @@ public final class PromisesTest {
         promise1NewObject();
         promise1FirstOfTwoExceptions();
         promise2Feed();
-        promise2FullTape();
         promise3End();
         promise4Restart();
         promise5More();
@@ -80,21 +78,6 @@ public final class PromisesTest {
         sameResult("2: the numbers come in their order", order, due);
     }
 
-    /** The limit lies beyond 512 calls, where the document leaves answers free; the class keeps to it all the same. */
-    private static void promise2FullTape() {
-        DigestBox box = new DigestBox();
-        for (int i = 1; i <= 3276; i++) {
-            box.feed(i, i, i, i, i);
-        }
-        Check.same("2: the TAPE before its limit", box.count(0), 65520);
-        Check.throwing("2: no room for 20", IllegalStateException.class, () -> box.feed(1, 1, 1, 1, 1));
-        Check.same("2: what throws changes nothing", box.count(0), 65520);
-        box.end(65516);
-        Check.same("2: just room for 20", box.feed(1, 1, 1, 1, 1), 65536);
-        Check.throwing("2: full", IllegalStateException.class, () -> box.feed(1, 1, 1, 1, 1));
-        Check.same("2: a full TAPE comes to the RUN", box.more(0), 65536);
-    }
-
     private static void promise3End() {
         DigestBox box = new DigestBox();
         Check.same("3: end(0) of an empty TAPE", box.end(0), 0);
@@ -139,7 +122,7 @@ public final class PromisesTest {
             for (int piece : pieces) {
                 byte[] bytes = Boxes.sample(piece);
                 Boxes.tape(box, bytes);
-                tape(due, bytes);
+                due.tape(bytes);
                 Check.same("5: more answers the RUN's length", box.more(kind), due.more(kind));
                 Check.same("5: more leaves the TAPE empty", box.count(0), 0);
                 Check.same("5: full BLOCKS are counted", box.count(3 + kind), due.count(3 + kind));
@@ -157,12 +140,12 @@ public final class PromisesTest {
             for (int piece : new int[] {0, 3, 52, 9, 48, 16, 127, 1}) {
                 byte[] bytes = Boxes.sample(piece);
                 Boxes.tape(box, bytes);
-                tape(due, bytes);
+                due.tape(bytes);
                 box.more(kind);
                 due.more(kind);
                 Check.same("6: peek answers the hash's length", box.peek(kind), HASH[kind]);
                 due.peek(kind);
-                Check.same("6: THE RESULT and BLOCKS, kind " + kind, Boxes.counts(box), counts(due));
+                Check.same("6: THE RESULT and BLOCKS, kind " + kind, Boxes.counts(box), due.counts());
                 Check.same("6: the hash's last byte", box.result(HASH[kind] - 1), due.result(HASH[kind] - 1));
             }
             box.feed(1, 1, 1, 1, 1);
@@ -240,10 +223,10 @@ public final class PromisesTest {
     private static void promise9Hmac() {
         for (int kind = 0; kind < 3; kind++) {
             DigestBox box = Boxes.withKeyAndTape(Boxes.sample(20), Boxes.sample(33));
-            ReferenceBox due = reference(Boxes.sample(20), Boxes.sample(33));
+            ReferenceBox due = ReferenceBox.withKeyAndTape(Boxes.sample(20), Boxes.sample(33));
             Check.same("9: hmac answers its length", box.hmac(kind), HASH[kind]);
             due.hmac(kind);
-            Check.same("9: hmac takes the TAPE; four BLOCKS", Boxes.counts(box), counts(due));
+            Check.same("9: hmac takes the TAPE; four BLOCKS", Boxes.counts(box), due.counts());
             sameResult("9: hmac, kind " + kind, box, due);
             box.hmac(kind);
             due.hmac(kind);
@@ -257,11 +240,11 @@ public final class PromisesTest {
             int block = BLOCK[kind];
             for (int length : new int[] {0, 1, block - 1, block, block + 1, 2 * block, 400}) {
                 DigestBox box = Boxes.withKeyAndTape(Boxes.sample(length), Boxes.sample(block));
-                ReferenceBox due = reference(Boxes.sample(length), Boxes.sample(block));
+                ReferenceBox due = ReferenceBox.withKeyAndTape(Boxes.sample(length), Boxes.sample(block));
                 box.hmac(kind);
                 due.hmac(kind);
                 String what = "9: hmac, kind " + kind + ", key of " + length;
-                Check.same(what, Boxes.counts(box), counts(due));
+                Check.same(what, Boxes.counts(box), due.counts());
                 sameResult(what, box, due);
             }
         }
@@ -272,7 +255,7 @@ public final class PromisesTest {
         ReferenceBox due = new ReferenceBox();
         for (int length : new int[] {400, 60, 3, 0}) {
             Boxes.key(box, Boxes.sample(length));
-            tape(due, Boxes.sample(length));
+            due.tape(Boxes.sample(length));
             due.key();
             box.hmac(1);
             due.hmac(1);
@@ -285,11 +268,11 @@ public final class PromisesTest {
             int most = 255 * HASH[kind];
             for (int n : new int[] {1, HASH[kind] - 1, HASH[kind], HASH[kind] + 1, 3 * HASH[kind] + 2, most - 1, most}) {
                 DigestBox box = Boxes.withKeyAndTape(Boxes.sample(HASH[kind]), Boxes.sample(17));
-                ReferenceBox due = reference(Boxes.sample(HASH[kind]), Boxes.sample(17));
+                ReferenceBox due = ReferenceBox.withKeyAndTape(Boxes.sample(HASH[kind]), Boxes.sample(17));
                 Check.same("10: expand answers n", box.expand(kind, n), n);
                 due.expand(kind, n);
                 String what = "10: expand(" + kind + ", " + n + ")";
-                Check.same(what, Boxes.counts(box), counts(due));
+                Check.same(what, Boxes.counts(box), due.counts());
                 sameEnds(what, box, due, n);
             }
             DigestBox box = Boxes.withKeyAndTape(Boxes.sample(5), Boxes.sample(17));
@@ -325,11 +308,11 @@ public final class PromisesTest {
             for (int[] c : nKContext) {
                 byte[] tape = Boxes.sample(c[1] + c[2]);
                 DigestBox box = Boxes.withKeyAndTape(Boxes.sample(32), tape);
-                ReferenceBox due = reference(Boxes.sample(32), tape);
+                ReferenceBox due = ReferenceBox.withKeyAndTape(Boxes.sample(32), tape);
                 String what = "11: expandLabel" + Arrays.toString(c) + ", kind " + kind;
                 Check.same(what, box.expandLabel(kind, c[0], c[1]), c[0]);
                 due.expandLabel(kind, c[0], c[1]);
-                Check.same(what, Boxes.counts(box), counts(due));
+                Check.same(what, Boxes.counts(box), due.counts());
                 sameEnds(what, box, due, c[0]);
             }
         }
@@ -337,10 +320,10 @@ public final class PromisesTest {
 
     private static void promise11OneLabelAfterAnother() {
         DigestBox box = Boxes.withKeyAndTape(Boxes.sample(32), new byte[0]);
-        ReferenceBox due = reference(Boxes.sample(32), new byte[0]);
+        ReferenceBox due = ReferenceBox.withKeyAndTape(Boxes.sample(32), new byte[0]);
         for (int length : new int[] {200, 9, 30}) {
             Boxes.tape(box, Boxes.sample(length));
-            tape(due, Boxes.sample(length));
+            due.tape(Boxes.sample(length));
             box.expandLabel(2, 33, 8);
             due.expandLabel(2, 33, 8);
             sameResult("11: nothing is left of an earlier label, " + length, box, due);
@@ -435,7 +418,7 @@ public final class PromisesTest {
 
     /** All 16,320 bytes of the longest RESULT, 400 from an object, as no object is promised for more calls. */
     private static void wholeLongResult() {
-        ReferenceBox due = reference(Boxes.sample(64), Boxes.sample(9));
+        ReferenceBox due = ReferenceBox.withKeyAndTape(Boxes.sample(64), Boxes.sample(9));
         due.expand(2, 16320);
         for (int first = 0; first < 16320; first += 400) {
             DigestBox box = Boxes.withKeyAndTape(Boxes.sample(64), Boxes.sample(9));
@@ -444,32 +427,6 @@ public final class PromisesTest {
                 Check.same("10: byte " + i + " of the longest RESULT", box.result(i), due.result(i));
             }
         }
-    }
-
-    private static ReferenceBox reference(byte[] key, byte[] tape) {
-        ReferenceBox due = new ReferenceBox();
-        tape(due, key);
-        due.key();
-        tape(due, tape);
-        return due;
-    }
-
-    private static void tape(ReferenceBox due, byte[] bytes) {
-        int before = due.count(0);
-        byte[] whole = Arrays.copyOf(bytes, (bytes.length + 19) / 20 * 20);
-        ByteBuffer numbers = ByteBuffer.wrap(whole);
-        while (numbers.hasRemaining()) {
-            due.feed(numbers.getInt(), numbers.getInt(), numbers.getInt(), numbers.getInt(), numbers.getInt());
-        }
-        due.end(before + bytes.length);
-    }
-
-    private static String counts(ReferenceBox due) {
-        StringBuilder all = new StringBuilder();
-        for (int what = 0; what < 6; what++) {
-            all.append(due.count(what)).append(' ');
-        }
-        return all.toString().trim();
     }
 
     private static void sameResult(String what, DigestBox box, ReferenceBox due) {

@@ -4,6 +4,7 @@ import java.nio.charset.StandardCharsets;
 import java.security.MessageDigest;
 import java.security.NoSuchAlgorithmException;
 import java.util.Arrays;
+import java.util.HexFormat;
 import java.util.NoSuchElementException;
 
 /** The document once more, by the JDK's hashes and whole texts: what DigestBox is compared with. */
@@ -18,6 +19,32 @@ final class ReferenceBox {
     private byte[] result = {};
     private final byte[][] runs = {{}, {}, {}};
     private final int[] blocks = {0, 0, 0};
+
+    static ReferenceBox withKeyAndTape(byte[] key, byte[] tape) {
+        ReferenceBox due = new ReferenceBox();
+        due.tape(key);
+        due.key();
+        due.tape(tape);
+        return due;
+    }
+
+    /** Brings these bytes to the end of the TAPE. */
+    void tape(byte[] bytes) {
+        tape = join(tape, bytes);
+    }
+
+    String counts() {
+        StringBuilder all = new StringBuilder();
+        for (int what = 0; what < 6; what++) {
+            all.append(count(what)).append(' ');
+        }
+        return all.toString().trim();
+    }
+
+    /** THE RESULT's bytes first .. last-1 in hex. */
+    String resultHex(int first, int last) {
+        return HexFormat.of().formatHex(result, first, last);
+    }
 
     int feed(int a, int b, int c, int d, int e) {
         if (65536 - tape.length < 20) {
